@@ -1,0 +1,63 @@
+/** What the tests of the project share: a call's answer or exception against the one that is due. */
+final class Checks {
+    interface Call {
+        long answer();
+    }
+
+    private int right;
+    private int wrong;
+
+    void due(String call, long got, long want) {
+        judge(got == want, call + " answered " + got + ", due is " + want);
+    }
+
+    void due(String call, boolean got, boolean want) {
+        judge(got == want, call + " answered " + got + ", due is " + want);
+    }
+
+    void due(String call, double got, double want) {
+        judge(got == want, call + " answered " + got + ", due is " + want);
+    }
+
+    void badIndex(SkyPlan plan, String name, Call call) {
+        fails(plan, name, IndexOutOfBoundsException.class, call);
+    }
+
+    void badArgument(SkyPlan plan, String name, Call call) {
+        fails(plan, name, IllegalArgumentException.class, call);
+    }
+
+    void badState(SkyPlan plan, String name, Call call) {
+        fails(plan, name, IllegalStateException.class, call);
+    }
+
+    /** The class has to be the very one: what the machine throws has a class below it. */
+    private void fails(SkyPlan plan, String name, Class<?> want, Call call) {
+        long before = plan.digest();
+        String got;
+        try {
+            got = "answered " + call.answer();
+        } catch (RuntimeException thrown) {
+            got = "threw " + thrown.getClass().getName();
+        }
+        judge(got.equals("threw " + want.getName()), name + " " + got + ", due is " + want.getName());
+        judge(plan.digest() == before, name + " threw and changed something");
+    }
+
+    void judge(boolean isRight, String text) {
+        if (isRight) {
+            right++;
+        } else {
+            wrong++;
+            System.out.println(text);
+        }
+    }
+
+    /** To be called last: ends the test with exit code 1 if an answer was not as due. */
+    void end() {
+        System.out.println(right + " answers are as due, " + wrong + " are not");
+        if (wrong != 0 || right == 0) {
+            System.exit(1);
+        }
+    }
+}
