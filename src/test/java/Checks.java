@@ -31,6 +31,13 @@ final class Checks {
         fails(plan, name, IllegalStateException.class, call);
     }
 
+    /** What a call threw; it has to be thrown by a line of the program, not by the machine or the library. */
+    static String nameOf(RuntimeException thrown) {
+        StackTraceElement[] trace = thrown.getStackTrace();
+        boolean isOurs = trace.length > 0 && trace[0].getClassName().startsWith("SkyPlan");
+        return thrown.getClass().getName() + (isOurs ? "" : " from outside the program");
+    }
+
     /** The class has to be the very one: what the machine throws has a class below it. */
     private void fails(SkyPlan plan, String name, Class<?> want, Call call) {
         long before = plan.digest();
@@ -38,7 +45,7 @@ final class Checks {
         try {
             got = "answered " + call.answer();
         } catch (RuntimeException thrown) {
-            got = "threw " + thrown.getClass().getName();
+            got = "threw " + nameOf(thrown);
         }
         judge(got.equals("threw " + want.getName()), name + " " + got + ", due is " + want.getName());
         judge(plan.digest() == before, name + " threw and changed something");

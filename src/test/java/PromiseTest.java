@@ -31,6 +31,9 @@ public final class PromiseTest {
         planAtThePole();
         planAmongClouds();
         planAndItsTies();
+        planAndTurning();
+        planAndTheTurningSky();
+        planAfterEachChange();
         visitEdges();
         use();
         observe();
@@ -192,7 +195,7 @@ public final class PromiseTest {
 
     private static void sine() {
         SkyPlan x = new SkyPlan();
-        int[][] due = {{0, 0}, {1, 17}, {2, 35}, {10, 175}, {30, 500}, {45, 705}, {60, 864}, {89, 999}, {90, 1000},
+        int[][] due = {{0, 0}, {1, 17}, {2, 35}, {10, 175}, {30, 500}, {45, 705}, {60, 864}, {63, 889}, {89, 999}, {90, 1000},
             {91, 999}, {135, 705}, {179, 17}, {180, 0}, {181, -17}, {225, -705}, {270, -1000}, {359, -17}, {360, 0},
             {361, 17}, {720, 0}, {-1, -17}, {-30, -500}, {-90, -1000}, {-180, 0}, {-270, 1000}, {-360, 0},
             {10000, -984}, {-10000, 984}};
@@ -545,6 +548,87 @@ public final class PromiseTest {
         dueVisit(y, 0, 1, 2, 2, 100 - 2);
         // a height of -17 counts -1
         dueVisit(y, 1, 0, 8, 1, 100 - 1 - 1);
+    }
+
+    private static void dueTurning(int rise, int declination, int filter, int want) {
+        SkyPlan x = pole();
+        x.addTarget(0, 0, 2, 9, 5);
+        x.want(0, 0, 1, 1);
+        x.addTarget(rise, declination, filter, 1, 5);
+        x.want(1, -1000, 1, 1);
+        dueVisit(x, 0, 0, 5, 5, 900 - 5);
+        due("visit(1, 2) at nearness " + x.nearness(0, 1), x.visit(1, 2), want);
+        due("visit(1, 1)", x.visit(1, 1), 10 + want);
+    }
+
+    /** From a nearness of 1000 to one of -1000, with the edges at 750. */
+    private static void planAndTurning() {
+        dueTurning(0, 0, 2, 1);
+        dueTurning(0, 0, 0, 4);
+        dueTurning(0, 0, 3, 4);
+        dueTurning(40, 40, 2, 1);
+        dueTurning(16, 41, 2, 2);
+        dueTurning(44, 40, 2, 2);
+        dueTurning(240, 0, 2, 3);
+        dueTurning(360, 0, 2, 5);
+        dueTurning(720, 0, 2, 9);
+        dueTurning(720, 0, 1, 12);
+    }
+
+    /** The height counts that the target has when the telescope is ready for it. */
+    private static void planAndTheTurningSky() {
+        SkyPlan x = new SkyPlan();
+        x.setSite(0, 0);
+        x.addTarget(1202, 0, 0, 1, 5);
+        due("height(0, 1)", x.height(0, 1), 514);
+        due("height(0, 2)", x.height(0, 2), 500);
+        dueVisit(x, 0, 0, 2, 2, 100 + 50 - 2);
+        SkyPlan y = new SkyPlan();
+        y.setSite(0, 0);
+        y.addTarget(1205, 0, 1, 1, 5);
+        due("height(0, 5)", y.height(0, 5), 500);
+        dueVisit(y, 0, 0, 5, 5, 100 + 50 - 5);
+        SkyPlan z = new SkyPlan();
+        z.setSite(0, 0);
+        z.addTarget(400, 0, 0, 1, 5);
+        due("window(0, 0)", z.window(0, 0), 112);
+        dueVisit(z, 0, 0, 112, 2, 100 + 31 - 2);
+    }
+
+    /** A plan that was told before is made anew when something changes. */
+    private static void planAfterEachChange() {
+        SkyPlan x = pole();
+        x.addTarget(0, 30, 0, 1, 5);
+        due("visits", x.visits(), 1);
+        x.addTarget(0, 30, 0, 1, 50);
+        due("visits behind addTarget", x.visits(), 2);
+        x.setLength(63);
+        due("window behind setLength", x.window(0, 1), 62);
+        x.setLength(60);
+        due("visits behind setLength", x.visits(), 2);
+        x.setMoon(0, 30, 15);
+        due("visits behind setMoon", x.visits(), 0);
+        due("window behind setMoon", x.window(0, 2), 0);
+        x.setMoon(0, 30, 0);
+        due("visits behind setMoon", x.visits(), 2);
+        x.setSite(-90, 0);
+        due("visits behind setSite", x.visits(), 0);
+        due("window behind setSite", x.window(0, 2), 0);
+        x.setSite(90, 0);
+        due("visits behind setSite", x.visits(), 2);
+        x.want(0, 501, 1, 1);
+        due("visits behind want", x.visits(), 1);
+        due("window behind want", x.window(0, 2), 0);
+        x.addClouds(50, 50);
+        due("visits behind addClouds", x.visits(), 0);
+        due("window behind addClouds", x.window(1, 2), 59);
+        x.setMoon(0, -30, 0);
+        due("visits among the clouds", x.visits(), 0);
+        x.pass(1);
+        due("visits behind pass", x.visits(), 1);
+        due("window behind pass", x.window(1, 2), 60);
+        x.observe();
+        due("visits behind observe", x.visits(), 0);
     }
 
     private static void visitEdges() {

@@ -123,7 +123,7 @@ public final class RandomRunTest {
         try {
             return isNaive ? naiveAnswer(kind, a) : planAnswer(kind, a);
         } catch (RuntimeException thrown) {
-            return thrown.getClass().getName();
+            return isNaive ? thrown.getClass().getName() : Checks.nameOf(thrown);
         }
     }
 
