@@ -15,7 +15,7 @@ public final class SkyPlan {
     private static final int WINDOW_FACTS = 5;
     private static final int VISIT_FACTS = 4;
     // merits may be negative, but none is as small as this
-    private static final int NO_MERIT = Integer.MIN_VALUE;
+    private static final int NO_MERIT = -1000000;
 
     // The point straight above the site at the minute 0 of the night 0: its declination is the
     // latitude, its rise number the start. So a height is worked out like a nearness.

@@ -195,11 +195,7 @@ public final class ArgumentEdgesTest {
     }
 
     private static void dueDigest(SkyPlan x, int... numbers) {
-        long due = 347;
-        for (int number : numbers) {
-            due = due * 31 + number;
-        }
-        CHECKS.due("digest", x.digest(), due);
+        CHECKS.due("digest", x.digest(), Checks.sum(numbers));
     }
 
     /** What is let through at the edges is what the object has then. */
@@ -220,9 +216,7 @@ public final class ArgumentEdgesTest {
     }
 
     private static void dueTarget(SkyPlan x, int target, int... due) {
-        for (int what = 0; what < 10; what++) {
-            CHECKS.due("target(" + target + ", " + what + ")", x.target(target, what), due[what]);
-        }
+        CHECKS.dueEach("target " + target, what -> x.target(target, what), due);
     }
 
     private static void targetsKeptAtTheEdges() {

@@ -1,3 +1,5 @@
+import java.util.function.IntUnaryOperator;
+
 /** What the tests of the project share: a call's answer or exception against the one that is due. */
 final class Checks {
     interface Call {
@@ -17,6 +19,22 @@ final class Checks {
 
     void due(String call, double got, double want) {
         judge(got == want, call + " answered " + got + ", due is " + want);
+    }
+
+    /** A call that tells several facts by their number, from 0 on. */
+    void dueEach(String call, IntUnaryOperator fact, int... want) {
+        for (int what = 0; what < want.length; what++) {
+            due(call + ", " + what, fact.applyAsInt(what), want[what]);
+        }
+    }
+
+    /** The checksum of these numbers. */
+    static long sum(int... numbers) {
+        long sum = 347;
+        for (int number : numbers) {
+            sum = sum * 31 + number;
+        }
+        return sum;
     }
 
     void badIndex(SkyPlan plan, String name, Call call) {

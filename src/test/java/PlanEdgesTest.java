@@ -38,10 +38,7 @@ public final class PlanEdgesTest {
     }
 
     private static void dueVisit(SkyPlan x, int index, int target, int begin, int wait, int merit) {
-        int[] want = {target, begin, wait, merit};
-        for (int what = 0; what < 4; what++) {
-            due("visit(" + index + ", " + what + ")", x.visit(index, what), want[what]);
-        }
+        CHECKS.dueEach("visit " + index, what -> x.visit(index, what), target, begin, wait, merit);
     }
 
     private static int addLow(SkyPlan x, int rise, int declination, int filter, int rank, int minutes) {
@@ -332,14 +329,10 @@ public final class PlanEdgesTest {
 
     /** "of several the one with the smallest number" */
     private static void smallestNumberOfSeveral() {
-        SkyPlan x = Starts.pole();
-        x.setLength(121);
-        for (int target = 0; target < 20; target++) {
-            x.addTarget(0, 90, 0, 5, 5);
-        }
+        SkyPlan x = Starts.twenty(121, 5);
         for (int index = 0; index < 20; index++) {
             int wait = index == 0 ? 2 : 1;
-            dueVisit(x, index, index, index == 0 ? 2 : 2 + 6 * index, wait, 600 - wait);
+            dueVisit(x, index, index, 2 + 6 * index, wait, 200 - wait);
         }
         SkyPlan y = Starts.pole();
         addLow(y, 0, 0, 0, 1, 5);
@@ -402,22 +395,12 @@ public final class PlanEdgesTest {
         due("visits on night 2", x.visits(), 2);
     }
 
-    /** 20 targets of n minutes, at one point. */
-    private static SkyPlan twenty(int length, int minutes) {
-        SkyPlan x = Starts.pole();
-        x.setLength(length);
-        for (int target = 0; target < 20; target++) {
-            x.addTarget(0, 90, 0, 1, minutes);
-        }
-        return x;
-    }
-
     /** 20 visits with 2 minutes before the first one and 1 before each other one, up to the last minute. */
     private static void fullestPlan() {
         int[] minutes = {5, 6, 43};
         for (int each : minutes) {
             int length = 2 + 20 * each + 19;
-            SkyPlan x = twenty(length, each);
+            SkyPlan x = Starts.twenty(length, each);
             due("visits", x.visits(), 20);
             dueVisit(x, 0, 0, 2, 2, 198);
             dueVisit(x, 19, 19, length - each, 1, 199);
@@ -429,7 +412,7 @@ public final class PlanEdgesTest {
     }
 
     private static void oneMinuteTooFew() {
-        SkyPlan x = twenty(120, 5);
+        SkyPlan x = Starts.twenty(120, 5);
         due("visits", x.visits(), 19);
         CHECKS.badIndex(x, "visit(19, 0)", () -> x.visit(19, 0));
         CHECKS.due("use", x.use(), 95.0 / 120);
@@ -437,12 +420,12 @@ public final class PlanEdgesTest {
         due("had by the last one", x.target(19, 8), 0);
         due("visits of the next night", x.visits(), 1);
         dueVisit(x, 0, 19, 2, 2, 198);
-        SkyPlan y = twenty(60, 120);
+        SkyPlan y = Starts.twenty(60, 120);
         due("visits of 120 minutes in 60", y.visits(), 0);
     }
 
     private static void planOnTheLastNight() {
-        SkyPlan x = twenty(121, 5);
+        SkyPlan x = Starts.twenty(121, 5);
         x.pass(60);
         due("visits", x.visits(), 20);
         dueVisit(x, 19, 19, 116, 1, 199);

@@ -47,39 +47,17 @@ public final class PromiseTest {
         CHECKS.due(call, got, want);
     }
 
-    /** Nights of 60 minutes at the pole. */
-    private static SkyPlan pole() {
-        SkyPlan x = new SkyPlan();
-        x.setSite(90, 0);
-        x.setLength(60);
-        return x;
-    }
-
     private static void dueVisit(SkyPlan x, int index, int target, int begin, int wait, int merit) {
-        int[] want = {target, begin, wait, merit};
-        for (int what = 0; what < 4; what++) {
-            due("visit(" + index + ", " + what + ")", x.visit(index, what), want[what]);
-        }
+        CHECKS.dueEach("visit " + index, what -> x.visit(index, what), target, begin, wait, merit);
     }
 
     private static void dueWindow(SkyPlan x, int target, int first, int last, int seen, int highest, int begin) {
-        int[] want = {first, last, seen, highest, begin};
-        for (int what = 0; what < 5; what++) {
-            due("window(" + target + ", " + what + ")", x.window(target, what), want[what]);
-        }
-    }
-
-    private static long sum(int... numbers) {
-        long sum = 347;
-        for (int number : numbers) {
-            sum = sum * 31 + number;
-        }
-        return sum;
+        CHECKS.dueEach("window of " + target, what -> x.window(target, what), first, last, seen, highest, begin);
     }
 
     private static void newObject() {
         SkyPlan x = new SkyPlan();
-        due("digest", x.digest(), sum(0, 600, 50, 0, 0, 0, 0, 0, 0));
+        due("digest", x.digest(), Checks.sum(0, 600, 50, 0, 0, 0, 0, 0, 0));
         due("count(0)", x.count(0), 0);
         due("visits", x.visits(), 0);
         due("night", x.night(), 0);
@@ -132,7 +110,7 @@ public final class PromiseTest {
     }
 
     private static void moon() {
-        SkyPlan x = pole();
+        SkyPlan x = Starts.pole();
         due("setMoon", x.setMoon(0, 30, 0), 0);
         due("setMoon", x.setMoon(1439, 90, 1), 7);
         due("setMoon", x.setMoon(0, -90, 14), 94);
@@ -141,7 +119,7 @@ public final class PromiseTest {
         due("setMoon", x.setMoon(8, 0, 16), 94);
         due("setMoon", x.setMoon(20, 30, 29), 7);
         due("moonHeight", x.moonHeight(0), 500);
-        due("digest", x.digest(), sum(0, 60, 90, 0, 20, 30, 29, 0, 0));
+        due("digest", x.digest(), Checks.sum(0, 60, 90, 0, 20, 30, 29, 0, 0));
         CHECKS.badArgument(x, "setMoon(-1, 0, 0)", () -> x.setMoon(-1, 0, 0));
         CHECKS.badArgument(x, "setMoon(1440, 0, 0)", () -> x.setMoon(1440, 0, 0));
         CHECKS.badArgument(x, "setMoon(0, -91, 0)", () -> x.setMoon(0, -91, 0));
@@ -152,7 +130,7 @@ public final class PromiseTest {
     }
 
     private static void clouds() {
-        SkyPlan x = pole();
+        SkyPlan x = Starts.pole();
         x.addTarget(0, 30, 0, 1, 5);
         CHECKS.badArgument(x, "addClouds(-1, 5)", () -> x.addClouds(-1, 5));
         CHECKS.badArgument(x, "addClouds(6, 5)", () -> x.addClouds(6, 5));
@@ -181,7 +159,7 @@ public final class PromiseTest {
     }
 
     private static void cloudsAndLength() {
-        SkyPlan x = pole();
+        SkyPlan x = Starts.pole();
         x.setLength(100);
         x.addTarget(0, 30, 0, 1, 5);
         due("addClouds", x.addClouds(50, 99), 50);
@@ -223,7 +201,7 @@ public final class PromiseTest {
     }
 
     private static void addTarget() {
-        SkyPlan x = pole();
+        SkyPlan x = Starts.pole();
         wrongTargets(x);
         due("addTarget", x.addTarget(0, -90, 0, 1, 5), 0);
         due("addTarget", x.addTarget(1439, 90, 3, 9, 120), 1);
@@ -238,7 +216,7 @@ public final class PromiseTest {
     }
 
     private static void want() {
-        SkyPlan x = pole();
+        SkyPlan x = Starts.pole();
         CHECKS.badIndex(x, "want(0, ..)", () -> x.want(0, 0, 1, 1));
         x.addTarget(0, 30, 0, 1, 5);
         due("want", x.want(0, -1000, 10, 20), 1);
@@ -262,13 +240,11 @@ public final class PromiseTest {
     }
 
     private static void dueTarget(SkyPlan x, int target, int... want) {
-        for (int what = 0; what < 10; what++) {
-            due("target(" + target + ", " + what + ")", x.target(target, what), want[what]);
-        }
+        CHECKS.dueEach("target " + target, what -> x.target(target, what), want);
     }
 
     private static void target() {
-        SkyPlan x = pole();
+        SkyPlan x = Starts.pole();
         x.addTarget(1, 32, 2, 3, 6);
         x.addTarget(1200, -20, 3, 9, 120);
         dueTarget(x, 0, 1, 32, 2, 3, 300, 6, 1, 1, 0, -1);
@@ -361,7 +337,7 @@ public final class PromiseTest {
     }
 
     private static void reason() {
-        SkyPlan x = pole();
+        SkyPlan x = Starts.pole();
         x.addTarget(0, 30, 0, 1, 5);
         x.addTarget(0, 10, 0, 1, 5);
         x.setMoon(0, 30, 15);
@@ -386,7 +362,7 @@ public final class PromiseTest {
     }
 
     private static void reasonAtTheMoonsEdge() {
-        SkyPlan x = pole();
+        SkyPlan x = Starts.pole();
         x.addTarget(88, 23, 0, 1, 5);
         x.addTarget(92, 26, 0, 1, 5);
         due("light", x.setMoon(0, 30, 2), 14);
@@ -408,7 +384,7 @@ public final class PromiseTest {
         dueWindow(x, 0, -1, -1, 0, 592, -1);
         x.pass(1);
         dueWindow(x, 0, 148, 599, 452, 588, 148);
-        SkyPlan y = pole();
+        SkyPlan y = Starts.pole();
         y.addTarget(0, 30, 0, 1, 5);
         dueWindow(y, 0, 0, 59, 60, 0, 0);
         CHECKS.badIndex(x, "window(-1, 0)", () -> x.window(-1, 0));
@@ -419,7 +395,7 @@ public final class PromiseTest {
     }
 
     private static void windowOfAVisit() {
-        SkyPlan x = pole();
+        SkyPlan x = Starts.pole();
         x.addTarget(0, 30, 0, 1, 10);
         x.addClouds(9, 9);
         x.addClouds(20, 29);
@@ -434,7 +410,7 @@ public final class PromiseTest {
         dueWindow(x, 0, 0, 59, 39, 0, -1);
         x.addClouds(59, 59);
         dueWindow(x, 0, 0, 58, 38, 0, -1);
-        SkyPlan y = pole();
+        SkyPlan y = Starts.pole();
         y.addTarget(0, 30, 0, 1, 60);
         y.addTarget(0, 30, 0, 1, 61);
         due("a visit as long as the night", y.window(0, 4), 0);
@@ -442,7 +418,7 @@ public final class PromiseTest {
     }
 
     private static void isOpen() {
-        SkyPlan x = pole();
+        SkyPlan x = Starts.pole();
         x.addTarget(0, 30, 0, 1, 5);
         CHECKS.due("a new one", x.isOpen(0), true);
         x.observe();
@@ -465,13 +441,11 @@ public final class PromiseTest {
     }
 
     private static void dueCounts(SkyPlan x, int... want) {
-        for (int what = 0; what < 4; what++) {
-            due("count(" + what + ")", x.count(what), want[what]);
-        }
+        CHECKS.dueEach("count", x::count, want);
     }
 
     private static void count() {
-        SkyPlan x = pole();
+        SkyPlan x = Starts.pole();
         dueCounts(x, 0, 0, 0, 0);
         x.addTarget(0, 30, 0, 1, 5);
         x.addTarget(0, 40, 0, 1, 5);
@@ -492,7 +466,7 @@ public final class PromiseTest {
     }
 
     private static void planAtThePole() {
-        SkyPlan x = pole();
+        SkyPlan x = Starts.pole();
         x.addTarget(0, 30, 0, 1, 5);
         x.addTarget(0, 90, 1, 1, 10);
         x.addTarget(0, 90, 0, 1, 10);
@@ -511,7 +485,7 @@ public final class PromiseTest {
     }
 
     private static void planAmongClouds() {
-        SkyPlan x = pole();
+        SkyPlan x = Starts.pole();
         x.addTarget(0, 30, 3, 1, 5);
         dueVisit(x, 0, 0, 5, 5, 100 + 50 - 5);
         x.addClouds(0, 6);
@@ -520,7 +494,7 @@ public final class PromiseTest {
         dueVisit(x, 0, 0, 55, 5, 145);
         x.addClouds(55, 55);
         due("visits: 4 minutes are too few", x.visits(), 0);
-        SkyPlan y = pole();
+        SkyPlan y = Starts.pole();
         y.addTarget(0, -30, 0, 1, 55);
         y.want(0, -1000, 1, 1);
         dueVisit(y, 0, 0, 2, 2, 100 - 50 - 2);
@@ -531,7 +505,7 @@ public final class PromiseTest {
     }
 
     private static void planAndItsTies() {
-        SkyPlan x = pole();
+        SkyPlan x = Starts.pole();
         x.addTarget(0, 30, 0, 4, 5);
         x.addTarget(90, 30, 0, 4, 5);
         x.addTarget(0, -20, 0, 4, 5);
@@ -540,7 +514,7 @@ public final class PromiseTest {
         dueVisit(x, 0, 0, 2, 2, 448);
         dueVisit(x, 1, 1, 8, 1, 449);
         dueVisit(x, 2, 2, 15, 2, 400 - 34 - 2);
-        SkyPlan y = pole();
+        SkyPlan y = Starts.pole();
         y.addTarget(0, -1, 0, 1, 5);
         y.want(0, -20, 1, 1);
         y.addTarget(0, 0, 0, 1, 5);
@@ -551,7 +525,7 @@ public final class PromiseTest {
     }
 
     private static void dueTurning(int rise, int declination, int filter, int want) {
-        SkyPlan x = pole();
+        SkyPlan x = Starts.pole();
         x.addTarget(0, 0, 2, 9, 5);
         x.want(0, 0, 1, 1);
         x.addTarget(rise, declination, filter, 1, 5);
@@ -597,7 +571,7 @@ public final class PromiseTest {
 
     /** A plan that was told before is made anew when something changes. */
     private static void planAfterEachChange() {
-        SkyPlan x = pole();
+        SkyPlan x = Starts.pole();
         x.addTarget(0, 30, 0, 1, 5);
         due("visits", x.visits(), 1);
         x.addTarget(0, 30, 0, 1, 50);
@@ -632,7 +606,7 @@ public final class PromiseTest {
     }
 
     private static void visitEdges() {
-        SkyPlan x = pole();
+        SkyPlan x = Starts.pole();
         CHECKS.badIndex(x, "visit(0, 0)", () -> x.visit(0, 0));
         for (int number = 0; number < 20; number++) {
             x.addTarget(0, 90, 0, 1, 5);
@@ -651,7 +625,7 @@ public final class PromiseTest {
     }
 
     private static void use() {
-        SkyPlan x = pole();
+        SkyPlan x = Starts.pole();
         CHECKS.due("use", x.use(), 0.0);
         x.addTarget(0, 30, 0, 1, 5);
         x.addTarget(0, 30, 0, 1, 16);
@@ -663,7 +637,7 @@ public final class PromiseTest {
     }
 
     private static void observe() {
-        SkyPlan x = pole();
+        SkyPlan x = Starts.pole();
         due("observe without targets", x.observe(), 0);
         due("night", x.night(), 1);
         x.addTarget(0, 30, 0, 1, 5);
@@ -689,7 +663,7 @@ public final class PromiseTest {
     }
 
     private static void pass() {
-        SkyPlan x = pole();
+        SkyPlan x = Starts.pole();
         x.addTarget(0, 30, 0, 1, 5);
         x.setMoon(1400, 7, 28);
         CHECKS.badArgument(x, "pass(0)", () -> x.pass(0));
@@ -723,7 +697,7 @@ public final class PromiseTest {
 
     /** The checksum from what the other calls answer, with the moon as it is due. */
     private static long digestOf(SkyPlan x, int moonRise, int moonDeclination, int moonAge) {
-        long d = sum(x.night(), x.setLength(60), 90, 0, moonRise, moonDeclination, moonAge, x.count(0));
+        long d = Checks.sum(x.night(), x.setLength(60), 90, 0, moonRise, moonDeclination, moonAge, x.count(0));
         for (int target = 0; target < x.count(0); target++) {
             for (int what = 0; what < 10; what++) {
                 d = d * 31 + x.target(target, what);
@@ -742,12 +716,12 @@ public final class PromiseTest {
     }
 
     private static void digest() {
-        SkyPlan x = pole();
+        SkyPlan x = Starts.pole();
         x.addTarget(8, 30, 0, 1, 5);
-        due("digest", x.digest(), sum(0, 60, 90, 0, 0, 0, 0, 1, 8, 30, 0, 1, 300, 5, 1, 1, 0, -1,
+        due("digest", x.digest(), Checks.sum(0, 60, 90, 0, 0, 0, 0, 1, 8, 30, 0, 1, 300, 5, 1, 1, 0, -1,
                 0, 59, 60, 0, 0, 1, 0, 2, 2, 148));
         x.addTarget(9, -30, 2, 7, 6);
-        due("digest", x.digest(), sum(0, 60, 90, 0, 0, 0, 0, 2, 8, 30, 0, 1, 300, 5, 1, 1, 0, -1,
+        due("digest", x.digest(), Checks.sum(0, 60, 90, 0, 0, 0, 0, 2, 8, 30, 0, 1, 300, 5, 1, 1, 0, -1,
                 0, 59, 60, 0, 0, 9, -30, 2, 7, 300, 6, 1, 1, 0, -1, -1, -1, 0, 0, -1, 1, 0, 2, 2, 148));
         x.setSite(80, 3);
         long before = x.digest();

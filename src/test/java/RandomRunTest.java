@@ -1,7 +1,7 @@
 /** Long runs of calls, rolled from fixed seeds, answered by SkyPlan and by NaivePlanner alike. */
 public final class RandomRunTest {
     private static final int RUNS = 120;
-    private static final int CALLS = 500;
+    private static final int CALLS = 512;
     private static final int[] WILD = {Integer.MIN_VALUE, Integer.MAX_VALUE, Integer.MIN_VALUE + 1, -1, 1 << 20};
 
     private final SkyPlan plan = new SkyPlan();

@@ -213,11 +213,7 @@ public final class SkyEdgesTest {
 
     /** The digest of an object without targets tells the moon. */
     private static void dueMoon(SkyPlan x, int rise, int declination, int age) {
-        int[] numbers = {x.night(), 600, 50, 0, rise, declination, age, 0, 0};
-        long want = 347;
-        for (int number : numbers) {
-            want = want * 31 + number;
-        }
+        long want = Checks.sum(x.night(), 600, 50, 0, rise, declination, age, 0, 0);
         due("the moon of night " + x.night() + " is " + rise + ", " + declination + ", " + age, x.digest(), want);
     }
 

@@ -11,6 +11,16 @@ final class Starts {
         return x;
     }
 
+    /** At the pole, 20 targets of so many minutes, all of them at its zenith. */
+    static SkyPlan twenty(int length, int minutes) {
+        SkyPlan x = pole();
+        x.setLength(length);
+        for (int target = 0; target < 20; target++) {
+            x.addTarget(0, 90, 0, 1, minutes);
+        }
+        return x;
+    }
+
     /** A site on the equator: the height of a point with the declination 0 is the cosine of its angle. */
     static SkyPlan equator(int start) {
         SkyPlan x = new SkyPlan();

@@ -43,25 +43,18 @@ public final class TargetEdgesTest {
     }
 
     private static void dueWindow(String name, SkyPlan x, int... want) {
-        for (int what = 0; what < 5; what++) {
-            due(name + ": window(0, " + what + ")", x.window(0, what), want[what]);
-        }
+        CHECKS.dueEach(name + ": window", what -> x.window(0, what), want);
     }
 
     private static void dueCounts(String name, SkyPlan x, int... want) {
-        for (int what = 0; what < 4; what++) {
-            due(name + ": count(" + what + ")", x.count(what), want[what]);
-        }
+        CHECKS.dueEach(name + ": count", x::count, want);
     }
 
     /** "a least height (300, at first); how many visits it wants (1, at first); how many nights (1, at first)" */
     private static void whatATargetHasAtFirst() {
         SkyPlan x = Starts.midway();
         due("addTarget", x.addTarget(1, 2, 3, 4, 5), 3);
-        int[] want = {1, 2, 3, 4, 300, 5, 1, 1, 0, -1};
-        for (int what = 0; what < 10; what++) {
-            due("target(3, " + what + ")", x.target(3, what), want[what]);
-        }
+        CHECKS.dueEach("target 3", what -> x.target(3, what), 1, 2, 3, 4, 300, 5, 1, 1, 0, -1);
         CHECKS.due("isOpen(3)", x.isOpen(3), true);
         // on the equator a declination of -72 gives 300 at the angle 14 and 299 at the angle 15
         SkyPlan y = Starts.equator(0);
@@ -404,10 +397,8 @@ public final class TargetEdgesTest {
 
     /** 20 targets for which a night of 121 minutes is just long enough. */
     private static SkyPlan twenty(int visits) {
-        SkyPlan x = Starts.pole();
-        x.setLength(121);
+        SkyPlan x = Starts.twenty(121, 5);
         for (int target = 0; target < 20; target++) {
-            x.addTarget(0, 90, 0, 1, 5);
             x.want(target, 300, visits, 1);
         }
         return x;
