@@ -21,6 +21,11 @@ final class Checks {
         judge(got == want, call + " answered " + got + ", due is " + want);
     }
 
+    /** For what is no number: a text, or a list of them. */
+    void dueText(String what, Object got, Object want) {
+        judge(got.equals(want), what + " is " + got + ", due is " + want);
+    }
+
     /** A call that tells several facts by their number, from 0 on. */
     void dueEach(String call, IntUnaryOperator fact, int... want) {
         for (int what = 0; what < want.length; what++) {

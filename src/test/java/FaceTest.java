@@ -102,6 +102,7 @@ public final class FaceTest {
     }
 
     private static void fields() {
+        CHECKS.judge(allClasses().size() <= 12, "there are " + allClasses().size() + " classes");
         for (Class<?> type : allClasses()) {
             int ownFields = 0;
             for (Field field : type.getDeclaredFields()) {

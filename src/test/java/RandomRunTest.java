@@ -2,6 +2,9 @@
 public final class RandomRunTest {
     private static final int RUNS = 120;
     private static final int CALLS = 512;
+    private static final int CALLS_BEHIND = 100;
+    private static final String ANSWER_OR_OURS =
+            "-?[0-9.E-]+|true|false|java\\.lang\\.(IllegalArgument|IllegalState|IndexOutOfBounds)Exception";
     private static final int[] WILD = {Integer.MIN_VALUE, Integer.MAX_VALUE, Integer.MIN_VALUE + 1, -1, 1 << 20};
 
     private final SkyPlan plan = new SkyPlan();
@@ -15,7 +18,9 @@ public final class RandomRunTest {
     public static void main(String[] args) {
         Checks checks = new Checks();
         for (int run = 1; run <= RUNS; run++) {
-            new RandomRunTest(run).compare(checks, run);
+            RandomRunTest test = new RandomRunTest(run);
+            test.compare(checks, run);
+            test.goOn(checks, run);
         }
         checks.end();
     }
@@ -33,6 +38,17 @@ public final class RandomRunTest {
             }
         }
         checks.judge(true, "");
+    }
+
+    /** "what later calls answer is free": but they throw nothing that the program doesn't throw itself. */
+    private void goOn(Checks checks, int run) {
+        for (int call = CALLS; call < CALLS + CALLS_BEHIND; call++) {
+            int kind = kindOfCall(call);
+            int[] a = arguments(kind);
+            String got = answer(kind, a, false);
+            checks.judge(got.matches(ANSWER_OR_OURS), "run " + run + ", call " + call + ", kind " + kind + " "
+                    + java.util.Arrays.toString(a) + " answered " + got);
+        }
     }
 
     private int roll(int below) {
